@@ -231,7 +231,7 @@ public final class ReactiveWires {
         }
 
         int add(int kind, int number, int p, int q) {
-            int made = size++;
+            int made = size;
             // A LOOP has two copies of p in it, so p stands on both sides.
             int second = kind == LOOP ? p : q;
             kinds[made] = kind;
@@ -245,6 +245,7 @@ public final class ReactiveWires {
             missingTraps[made] = missingTrapsOf(kind, number, p, second);
             neverWait[made] = (kind == LOOP && (factOf(codes, p) & K0) != 0)
                     || (has(p) && neverWait[p]) || (has(second) && neverWait[second]);
+            size++;
             return made;
         }
 

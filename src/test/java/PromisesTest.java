@@ -295,6 +295,10 @@ final class PromisesTest {
     RUNS.run("5 suspended by its own end", BASE,
         "make 3 1 2 0 -> 4; make 7 3 4 0 -> 5; build 5 -> 1; react 0 -> 0; react 0 -> " + STATE,
         "unknown -> 1; register 0 -> 1; count 2 -> 1; react 0 -> " + STATE, "count 3 -> 2; over -> 0");
+    // Neither side of the PARALLEL is known to end, so that what is behind it is unknown too.
+    RUNS.run("5 suspended by an unknown signal", BASE,
+        "make 7 3 1 0 -> 4; make 6 3 2 1 -> 5; make 3 1 5 0 -> 6; make 4 4 6 0 -> 7; make 3 7 3 0 -> 8",
+        "build 8 -> 3; react 0 -> 0; react 0 -> " + STATE, "unknown -> 2; register 0 -> 1; register 1 -> 1; register 2 -> 0");
   }
 
   private static void reactLocal() {
