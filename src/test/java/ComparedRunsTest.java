@@ -1,8 +1,11 @@
 import java.util.Random;
+import java.util.function.LongSupplier;
 
 /** Many runs of calls, always the same ones, each answer compared with the plain model's. */
 final class ComparedRunsTest {
-  private static final int RUNS = 600;
+  private static final int RUNS = 4000;
+  // The document promises nothing of later calls.
+  private static final int MOST_CALLS = 512;
   // Kinds weighted so that programs wait, meet and leave often enough to be built.
   private static final int[] KINDS = {0, 1, 1, 1, 1, 2, 2, 2, 2, 3, 3, 3, 3, 4, 4, 4, 4, 5, 5, 6, 6, 6, 7, 7, 8, 8, 9, 9, 10};
 
@@ -13,6 +16,8 @@ final class ComparedRunsTest {
   private Random random;
   private String name;
   private int registers;
+  private int calls;
+  private boolean growing;
 
   public static void main(String[] args) {
     ComparedRunsTest test = new ComparedRunsTest();
@@ -28,21 +33,20 @@ final class ComparedRunsTest {
     wires = new ReactiveWires();
     model = new PlainModel();
     int statements = 3 + random.nextInt(random.nextInt(8) == 0 ? 60 : 25);
-    int calls = 0;
     name = "run " + run;
     registers = 0;
-    while (calls < 500) {
-      for (int i = 0; i < statements && calls < 400; i++, calls++) {
+    calls = 0;
+    growing = run % 4 == 0;
+    while (calls < MOST_CALLS) {
+      for (int i = 0; i < statements; i++) {
         make();
       }
-      int root = random.nextInt(3) == 0 ? any() : Math.max(0, model.count(0) - 1 - random.nextInt(4));
-      build(root);
+      build(random.nextInt(3) == 0 ? any() : Math.max(0, model.count(0) - 1 - random.nextInt(4)));
       int instants = random.nextInt(12);
       for (int i = 0; i < instants; i++) {
         react();
         lookAround();
       }
-      calls += 4 + 4 * instants;
       statements = random.nextInt(4);
     }
   }
@@ -51,6 +55,9 @@ final class ComparedRunsTest {
     int size = model.count(0);
     if (random.nextInt(60) == 0) {
       return random.nextBoolean() ? size : -1 - random.nextInt(2);
+    }
+    if (growing && size > 0) {
+      return Math.max(0, size - 1 - random.nextInt(5));
     }
     // Late ones more often, so that programs grow.
     return Math.max(random.nextInt(size + 1), random.nextInt(size + 1)) - (size > 0 && random.nextInt(40) > 0 ? 1 : 0);
@@ -63,7 +70,7 @@ final class ComparedRunsTest {
     int b = any();
     int c = any();
     compare("make " + kind + " " + a + " " + b + " " + c,
-        Runs.answerOf(() -> wires.make(kind, a, b, c)), Runs.answerOf(() -> model.make(kind, a, b, c)));
+        () -> wires.make(kind, a, b, c), () -> model.make(kind, a, b, c));
   }
 
   private int signal(int kind) {
@@ -74,13 +81,17 @@ final class ComparedRunsTest {
   }
 
   private void build(int root) {
-    String want = Runs.answerOf(() -> model.build(root));
-    compare("build " + root, Runs.answerOf(() -> wires.build(root)), want);
-    seen[want.equals("throws.UnsupportedOperationException") ? 0 : 1]++;
-    registers = want.startsWith("throws") ? registers : Integer.parseInt(want);
-    for (int p = 0; p < model.count(0); p++) {
+    String due = compare("build " + root, () -> wires.build(root), () -> model.build(root));
+    if (due.startsWith("throws")) {
+      seen[0]++;
+    } else if (!due.isEmpty()) {
+      seen[1]++;
+      registers = Integer.parseInt(due);
+    }
+    // Which statements are asked for, so that calls are left for the instants.
+    for (int p = random.nextInt(8); p < model.count(0); p += 8) {
       int statement = p;
-      compare("can " + p, wires.can(statement), model.can(statement));
+      compare("can " + p, () -> wires.can(statement), () -> model.can(statement));
     }
     lookAround();
   }
@@ -88,38 +99,38 @@ final class ComparedRunsTest {
   private void react() {
     int inputs = random.nextInt(50) == 0 ? random.nextInt(12) - 2 : random.nextInt(8);
     boolean over = model.over();
-    String want = Runs.answerOf(() -> model.react(inputs));
-    compare("react " + inputs, Runs.answerOf(() -> wires.react(inputs)), want);
-    if (!over) {
-      seen[want.startsWith("throws") ? 2 : 3]++;
-    }
-    if (model.unknown() > 1) {
-      seen[4]++;
-    }
-    if (model.count(1) > 60) {
-      seen[5]++;
+    String due = compare("react " + inputs, () -> wires.react(inputs), () -> model.react(inputs));
+    if (!over && !due.isEmpty()) {
+      seen[due.startsWith("throws") ? 2 : 3]++;
+      seen[4] += model.unknown() > 1 ? 1 : 0;
+      seen[5] += model.count(1) > 60 ? 1 : 0;
     }
   }
 
   private void lookAround() {
-    for (int what = -1; what <= 4; what++) {
-      int w = what;
-      compare("count " + what, Runs.answerOf(() -> wires.count(w)), Runs.answerOf(() -> model.count(w)));
-    }
-    compare("unknown", wires.unknown(), model.unknown());
-    compare("over", wires.over(), model.over());
-    for (int i = -1; i <= registers; i++) {
-      int r = i;
-      compare("register " + i, Runs.answerOf(() -> wires.register(r) ? 1 : 0),
-          Runs.answerOf(() -> model.register(r) ? 1 : 0));
+    int what = random.nextInt(6) - 1;
+    compare("count " + what, () -> wires.count(what), () -> model.count(what));
+    compare("unknown", wires::unknown, model::unknown);
+    compare("over", () -> wires.over() ? 1 : 0, () -> model.over() ? 1 : 0);
+    // All of few registers, some of many.
+    for (int i = -1; i <= registers; i += 1 + random.nextInt(1 + registers / 4)) {
+      int register = i;
+      compare("register " + i, () -> wires.register(register) ? 1 : 0, () -> model.register(register) ? 1 : 0);
     }
     if (random.nextInt(15) == 0) {
-      compare("reset", Runs.answerOf(wires::reset), Runs.answerOf(model::reset));
+      compare("reset", wires::reset, model::reset);
     }
   }
 
-  private void compare(String call, Object got, Object want) {
-    runs.due(name + ": " + call, got, want);
+  /** The answer that was due, or an empty text when the run is at its end and nothing was called. */
+  private String compare(String call, LongSupplier got, LongSupplier want) {
+    if (calls == MOST_CALLS) {
+      return "";
+    }
+    calls++;
+    String due = Runs.answerOf(want);
+    runs.due(name + ": " + call, Runs.answerOf(got), due);
+    return due;
   }
 
   /** The comparison says nothing about what the runs never reach. */

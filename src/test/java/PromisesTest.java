@@ -7,10 +7,10 @@ import java.util.TreeSet;
 
 /** Each promise of the document by itself: ordinary calls, the edges it names, and wrong calls. */
 final class PromisesTest {
-  private static final String BAD = "throws.IllegalArgumentException";
-  private static final String STATE = "throws.IllegalStateException";
-  private static final String INDEX = "throws.IndexOutOfBoundsException";
-  private static final String REFUSED = "throws.UnsupportedOperationException";
+  private static final String BAD = Runs.BAD;
+  private static final String STATE = Runs.STATE;
+  private static final String INDEX = Runs.INDEX;
+  private static final String REFUSED = Runs.REFUSED;
 
   // 0 NOTHING, 1 PAUSE, 2 EMIT 3, 3 EMIT 4: most programs below begin with these.
   private static final String BASE =
