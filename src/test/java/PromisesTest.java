@@ -1,10 +1,3 @@
-import java.lang.reflect.Constructor;
-import java.lang.reflect.Field;
-import java.lang.reflect.Method;
-import java.lang.reflect.Modifier;
-import java.util.Arrays;
-import java.util.TreeSet;
-
 /** Each promise of the document by itself: ordinary calls, the edges it names, and wrong calls. */
 final class PromisesTest {
   private static final String BAD = Runs.BAD;
@@ -19,7 +12,6 @@ final class PromisesTest {
   private static final Runs RUNS = new Runs();
 
   public static void main(String[] args) {
-    face();
     newObject();
     makeTakesArguments();
     makeRefuses();
@@ -44,29 +36,6 @@ final class PromisesTest {
     count();
     longUse();
     RUNS.end();
-  }
-
-  private static void face() {
-    TreeSet<String> members = new TreeSet<>();
-    for (Method m : ReactiveWires.class.getDeclaredMethods()) {
-      if (!Modifier.isPrivate(m.getModifiers())) {
-        members.add(m.getReturnType() + " " + m.getName() + Arrays.toString(m.getParameterTypes()));
-      }
-    }
-    for (Field f : ReactiveWires.class.getDeclaredFields()) {
-      if (!Modifier.isPrivate(f.getModifiers())) {
-        members.add(Modifier.toString(f.getModifiers()) + " " + f.getName());
-      }
-    }
-    for (Constructor<?> c : ReactiveWires.class.getDeclaredConstructors()) {
-      members.add(Modifier.toString(c.getModifiers()) + " new" + Arrays.toString(c.getParameterTypes()));
-    }
-    RUNS.due("face", members, new TreeSet<>(Arrays.asList(
-        "int make[int, int, int, int]", "int can[int]", "int build[int]", "int react[int]", "int unknown[]",
-        "int reset[]", "boolean register[int]", "boolean over[]", "int count[int]",
-        "public static final NONE", "public new[]")));
-    RUNS.due("class", Modifier.toString(ReactiveWires.class.getModifiers()), "public final");
-    RUNS.due("NONE", ReactiveWires.NONE, -1);
   }
 
   private static void newObject() {
